@@ -16,6 +16,7 @@ public final class BestTest {
     // House 0 has a dent a week and is lost in week 3, house 1 (crowd 3 then) in week 6.
     RoomToSpare x = Due.townOf("hh0103;hh0100;");
     DUE.is("none is lost within 2", -9, x.move(2));
+    DUE.is("move(0)", -9, x.move(0));
     DUE.is("1 of 3 goes to 1", 1, x.move(3));
     DUE.is("for 30 weeks", 1, x.move(30));
     DUE.is("nothing is altered", 3, x.house(0, 3));
@@ -27,6 +28,10 @@ public final class BestTest {
     DUE.is("half is enough", 1, Due.townOf("hh0104;hh9900;").move(5));
     DUE.is("as many as there is room for", 1, Due.townOf("hh0104;hh9928;").move(5));
     DUE.is("room for 1 is not enough", -9, Due.townOf("hh0104;hh9929;").move(5));
+    // 2 more make 4 in house 1, lost in week 4; behind 3 weeks both are kept.
+    x = Due.townOf("hh0104;hh0102;");
+    DUE.is("the other is crowded, but not yet lost", 1, x.move(3));
+    DUE.is("then it is", -9, x.move(4));
     DUE.is("one house", -9, Due.townOf("hh0103;").move(5));
     DUE.is("none", -9, new RoomToSpare().move(5));
     // Whatever helps saves house 0 alone: its half may go to 1, which is lost anyway, or to 2.
@@ -43,6 +48,7 @@ public final class BestTest {
     DUE.is("the second alone", 2, Due.townOf("hh9900;hh9900;d108;").air(2));
     DUE.is("none need it", 0, Due.townOf("hh9900;hh9900;d008;d107;").air(2));
     DUE.is("a lost one does not count", 0, Due.townOf("hh9900;hh9900;d009;x0;").air(9));
+    DUE.is("0 and three times 3 is not yet 10", 4, Due.townOf("hm9900;hm9900;hm9900;d209;").air(3));
     DUE.is("it does not help against dents", -9, Due.townOf("hh0103;hh0100;").air(3));
     DUE.is("ahead of the dents it does", 0, Due.townOf("hh0103;hh0100;").air(2));
     DUE.is("none", 0, new RoomToSpare().air(30));

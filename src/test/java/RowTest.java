@@ -111,6 +111,10 @@ public final class RowTest {
     Due.tell(x, "d009;");
     DUE.is("dust stays: lost", 0, x.lots(5, 3, 0));
     DUE.is("no people then", 0, x.lots(5, 3, 1));
+    // 60 candles are 10 weeks of light for six: house 5, seen in week 12, has 4 + 2 * 3 and is lost;
+    // house 4, seen in 11, has 5 + 3; house 0, seen in 13, would be lost, too.
+    x = Due.townOf("hh9900;hh9900;hh9900;hh9900;hh9900;hh9900;c060;");
+    DUE.is("a year has 12 weeks", 5, x.lots(1, 0, 0));
     DUE.is("lots(0, 0, 9)", -4, x.lots(0, 0, 9));
     DUE.is("lots(21, 0, 9)", -6, x.lots(21, 0, 9));
     DUE.is("lots(20, 0, 2)", -2, x.lots(20, 0, 2));
@@ -155,7 +159,8 @@ public final class RowTest {
     DUE.is("on() from it", 9, x.on());
     x = new RoomToSpare();
     x.image();
-    Due.tell(x, "hh9905;w01;");
+    Due.tell(x, "hh9905;d009;");
+    x.dents(0, 2);
     DUE.is("on() to none", 0, x.on());
     DUE.is("no houses", 0, x.count(0));
     DUE.is("no such house", -1, x.house(0, 0));

@@ -95,6 +95,11 @@ public final class TownTest {
     x = Due.townOf("hh0203;hh9900;d007;");
     DUE.is("dents count", 11, x.two(0, 1, 0));
     DUE.is("kept with a dent is 4, lost with none 2", 1, x.two(0, 1, 1));
+    // Not letting, house 0 is kept with a dent a week: 2 behind 3 weeks, 1 behind 4. Letting, it is
+    // lost in week 1 by its dust, without a dent: 2.
+    x = Due.townOf("hh0203;hh9900;hh9900;hh9900;d007;");
+    DUE.is("2 either way: the first pair", 1, x.two(0, 1, 3));
+    DUE.is("1 against 2", 11, x.two(0, 1, 4));
     x = Due.townOf("hi5526;hp3106;hm9401;d005;c107;");
     DUE.is("no such pair", -9, x.two(0, 2, 22));
     // 20 at most: 19 and 3 are 20 as well.

@@ -201,6 +201,7 @@ public final class WeeksTest {
     DUE.is("lost(-2)", -1, x.lost(-2));
     DUE.is("lost(least)", -1, x.lost(Integer.MIN_VALUE));
     DUE.is("first of none", -9, new RoomToSpare().lost(-1));
+    DUE.is("house 0 is the first", 0, Due.townOf("hh0103;hh0103;").lost(-1));
     x = Due.townOf("hc9100;x0;");
     DUE.is("none kept", -9, x.lost(-1));
     // Four burn 4 a week; each is seen every fourth week.
@@ -250,6 +251,11 @@ public final class WeeksTest {
     // Unlit from week 16 on: lost in 18, 19, 20, 21.
     DUE.is("two behind 19", 2, Integer.bitCount(x.then(19, 0)));
     DUE.is("still with the last", 21, x.still());
+    // Unlit from week 19 on: lost in 21 first; from 18 on: in 20, 21, 22, 23.
+    x.candles(72);
+    DUE.is("all are kept behind 20", 0, x.still());
+    x.candles(68);
+    DUE.is("one is lost in 20", 23, x.still());
     x = Due.townOf("w10;hc4807;hg1215;hc4102;hc2601;hc3812;hg3705;c166;i2;");
     // Lost behind 16, 36, 43, 50, 57 and later: always one within 20 weeks.
     DUE.is("lost(5)", 16, x.lost(5));
