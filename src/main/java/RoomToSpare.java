@@ -776,6 +776,7 @@ public final class RoomToSpare {
     return part == 0 ? above / common : below / common;
   }
 
+  /** The greatest common divisor; a thousand steps are far more than longs can need. */
   private static long commonDivisor(long a, long b) {
     long greater = a;
     long rest = b;
