@@ -127,7 +127,10 @@ public final class EdgesOfMindTest {
 
   private static void first() {
     DOC.says("FIRST: which is, of those KEPT now, of several the least; -9");
-    DOC.is("house 1 ahead of 2", 1, Due.townOf("hh9900;hh9900;hh9900;d209;d109;").lost(-1));
+    RoomToSpare x = Due.townOf("hh9900;hh9900;hh9900;d209;d109;");
+    DOC.is("house 1 ahead of 2", 1, x.lost(-1));
+    x.then(60, 0);
+    DOC.is("as well behind another question", 1, x.lost(-1));
     DOC.is("house 2 alone", 2, Due.townOf("hh9900;hh9900;hh9900;d209;").lost(-1));
     DOC.is("one lost now is not", 1, Due.townOf("hh9900;hh9900;d109;d020;x0;").lost(-1));
     DOC.is("two alike", 0, Due.townOf("hh9900;hh9900;d009;d109;").lost(-1));
@@ -271,6 +274,8 @@ public final class EdgesOfMindTest {
     DOC.is("air(31)", -6, x.air(31));
     x.keeps(0);
     DOC.is("a lost one needs none", 2, x.air(30));
+    DOC.is("0 and three times 3 is kept", 4, Due.townOf(INNS + "d209;").air(3));
+    DOC.is("0 and five times 2 is lost", -9, Due.townOf("hp9900;".repeat(5) + "d420;").air(5));
     DOC.is("it does not help against dents", -9, Due.townOf("hh0103;").air(3));
     // The last WEEK of 30 is dark: the third is lost in it, with 3 + 3 + 7.
     x = Due.townOf(INNS + "c261;");
@@ -356,8 +361,16 @@ public final class EdgesOfMindTest {
     DOC.is("lost behind 60", 1, Due.townOf(FOUR + "c228;").bestKind(3, 0));
     DOC.is("lost behind 61", 0, Due.townOf(FOUR + "c232;").bestKind(0, 0));
     DOC.is("lost behind 61", -9, Due.townOf(FOUR + "c232;").bestKind(0, 1));
+    // A HOUSE, or a ghost, is lost in the third dark WEEK, any other in the first that is seen.
+    x = Due.townOf("hp9900;hp9900;hp9900;hi1102;x0;x1;x2;c057;");
+    DOC.is("lost behind 60", 0, x.bestKind(3, 0));
+    DOC.is("behind how many", 60, x.bestKind(3, 1));
+    x.candles(58);
+    DOC.is("lost behind 64", -9, x.bestKind(3, 1));
 
     DOC.says("of several the least");
+    x = Due.townOf(others);
+    x.dents(1, 1);
     DOC.is("lost behind 1 with any", 0, Due.townOf("hi9900;d020;").bestKind(0, 0));
     DOC.is("never lost with any", 0, Due.townOf("hi9900;").bestKind(0, 0));
     DOC.is("lost now", 0, Due.townOf("hi9900;x0;").bestKind(0, 0));

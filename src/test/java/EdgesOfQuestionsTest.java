@@ -1,6 +1,7 @@
 /** The document's words from SPARE to the DRAW, one behind the other. */
 public final class EdgesOfQuestionsTest {
   private static final Reading DOC = new Reading("SPARE: how many PEOPLE", "THE IMAGE: all");
+  private static final String ALONE = "hh9900;hh9900;hh0100;hh9900;hh9900;hh9900;";
   private static final String SIX = "hh9900;hh9900;hh9900;hh9900;hh9900;hh9900;";
 
   public static void main(String[] args) {
@@ -379,6 +380,12 @@ public final class EdgesOfQuestionsTest {
     x.dents(0, 9);
     DOC.is("three years", 3, x.lots(3, 0, 0));
     DOC.is("house(0, 5)", 9, x.house(0, 5));
+    // House 0 is lost in WEEK 5, its 18 come to house 2, where none were drawn; seen in 7 with 2.
+    x = Due.townOf(ALONE + "x1;x3;x4;x5;d006;i2;");
+    DOC.is("2 DENTS, kept", 1, x.lots(1, 2, 0));
+    DOC.is("12 and 18 and 6, 26, 15", 77, x.lots(1, 2, 1));
+    // House 5 is lost in WEEK 4, its 15 come to house 2, seen in 7 with 3.
+    DOC.is("3 DENTS, lost", 0, Due.townOf(ALONE + "x0;x1;x3;x4;d506;i2;").lots(1, 2, 0));
 
     DOC.says("then 12 WEEKS: KEPT of all together; PEOPLE");
     // Unlit from WEEK 11 on: house 5, seen in 12, has 4 + 3 + 3; house 0, seen in 13, 3 + 3 + 3 + 3.

@@ -282,6 +282,7 @@ public final class EdgesOfWeekTest {
     DOC.is("2", 7, seen("00", 2).count(2));
     DOC.is("3", 6, seen("00", 3).count(2));
     DOC.is("9", 6, seen("00", 9).count(2));
+    DOC.is("its DENTS stay", 3, seen("00", 3).house(0, 5));
     x = Due.townOf("hh0103;hh9905;");
     x.dents(0, 2);
     DOC.is("3 with this WEEK's", 1, x.weeks(1));
