@@ -129,8 +129,9 @@ public final class EdgesOfMindTest {
     DOC.says("FIRST: which is, of those KEPT now, of several the least; -9");
     RoomToSpare x = Due.townOf("hh9900;hh9900;hh9900;d209;d109;");
     DOC.is("house 1 ahead of 2", 1, x.lost(-1));
+    x.visits(2);
     x.then(60, 0);
-    DOC.is("as well behind another question", 1, x.lost(-1));
+    DOC.is("house 2 ahead of 1, behind another question", 2, x.lost(-1));
     DOC.is("house 2 alone", 2, Due.townOf("hh9900;hh9900;hh9900;d209;").lost(-1));
     DOC.is("one lost now is not", 1, Due.townOf("hh9900;hh9900;d109;d020;x0;").lost(-1));
     DOC.is("two alike", 0, Due.townOf("hh9900;hh9900;d009;d109;").lost(-1));
