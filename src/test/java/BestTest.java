@@ -114,6 +114,11 @@ public final class BestTest {
     DUE.is("unlit he does not; a ghost does", 4, x.bestKind(0, 0));
     DUE.is("an inn bears 6", 3, Due.townOf("hh0106;hh9900;c999;").bestKind(0, 0));
     DUE.is("a ghost bears all", 4, Due.townOf("hh0120;hh9900;c999;").bestKind(0, 0));
+    // Seen in week 6: 7 dust and 6 of any other kind's weeks are 10 or more.
+    x = Due.townOf("hh9900;hh9900;hh9900;hh9900;hh9900;hh9900;d507;");
+    DUE.is("as it is", 6, x.lost(5));
+    DUE.is("a clean one bears 7 dust for six weeks", 5, x.bestKind(5, 0));
+    DUE.is("in the dark 6 a round: never", -9, x.bestKind(5, 1));
     DUE.is("for ever as it is", 0, Due.townOf("hi9900;").bestKind(0, 0));
     x = Due.townOf("hp9900;x0;");
     DUE.is("a lost one: any is as late", 0, x.bestKind(0, 0));

@@ -102,6 +102,16 @@ public final class TownTest {
     DUE.is("1 against 2", 11, x.two(0, 1, 4));
     x = Due.townOf("hi5526;hp3106;hm9401;d005;c107;");
     DUE.is("no such pair", -9, x.two(0, 2, 22));
+    // House 1 is lost in week 4 by its dents: -4. If it lets, in week 2 by its dust: 0; but then its
+    // 30 people are found twice in house 0, which has 2 less, whether it lets or not.
+    x = Due.townOf("hh0100;hc0330;d107;");
+    DUE.is("5 without the other's letting is not 3 with it", 11, x.two(0, 1, 4));
+    DUE.is("told the other way", 11, x.two(1, 0, 4));
+    // House 1 is lost in week 3 by its dents and sends 6 people to house 0: two dents. If it lets,
+    // three sleep in each room: no dents, and it is kept.
+    x = Due.townOf("hm0100;hp9206;i1;");
+    DUE.is("7 with the other's letting is not 5 without it", 11, x.two(0, 1, 5));
+    DUE.is("told the other way", 11, x.two(1, 0, 5));
     // 20 at most: 19 and 3 are 20 as well.
     x = Due.townOf("hh9900;hh9900;d019;i1;");
     DUE.is("dust at most", 11, x.two(0, 1, 1));
@@ -154,6 +164,9 @@ public final class TownTest {
     x = Due.townOf("hh9900;hh9900;");
     DUE.is("0", 0, x.mean(0));
     DUE.is("by 1", 1, x.mean(1));
+    x = Due.townOf("hh9907;");
+    DUE.is("7 of one", 7, x.mean(0));
+    DUE.is("of one by 1", 1, x.mean(1));
     DUE.is("of none", 0, new RoomToSpare().mean(0));
     DUE.is("of none by 1", 1, new RoomToSpare().mean(1));
   }
